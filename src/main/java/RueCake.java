@@ -1541,11 +1541,11 @@ public final class RueCake {
          * the order asked for, so that the first of the best is found first.
          */
         private void cutFrom(int slice, int used) {
-            if (slice >= feast.slices) {
-                keepCut();
+            if (Integer.bitCount(used) + feast.slices - slice < feast.guests) {
                 return;
             }
-            if (Integer.bitCount(used) + feast.slices - slice < feast.guests) {
+            if (slice >= feast.slices) {
+                keepCut();
                 return;
             }
             for (int guest = 0; guest < feast.guests; guest++) {

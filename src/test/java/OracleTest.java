@@ -175,19 +175,14 @@ public final class OracleTest {
         }
     }
 
-    /** Often what is so by a rule in truth, so that some rules stay. */
+    /** At the begin often what will be so by the rule in force, so that some rules stay. */
     private void noteSome(int a, int b, int n) {
-        if (random.nextInt(12) == 0) {
-            n = -1;
+        int turn = random.nextInt(12) == 0 ? -1 : n;
+        int whose = random.nextInt(4) == 0 ? -1 : b;
+        if (oracle.count(6) == 0 && random.nextInt(3) != 0) {
+            whose = Math.max(-1, oracle.ahead(a, turn, 0));
         }
-        if (random.nextInt(3) != 0 && slices > 0 && n >= 0 && n <= 60 && oracle.count(2) > 0) {
-            oracle.image(3);
-            cake.image(3);
-            b = random.nextInt(4) == 0 ? -1 : b;
-            Oracle look = oracle;
-            b = look.count(6) == 0 && n <= 60 ? Math.max(-1, look.ahead(a, n, 0)) : b;
-        }
-        due("note " + n + " " + a + " " + b, cake.note(n, a, b), oracle.note(n, a, b));
+        due("note " + turn + " " + a + " " + whose, cake.note(turn, a, whose), oracle.note(turn, a, whose));
     }
 
     private void tell(String text, boolean asFeast) {
