@@ -261,6 +261,9 @@ public final class PromiseTest {
         feastFault("cake 0 0\u00e9", 8, 0);
         feastFault("cake 0 0;slice 0 1;guest x", 25, 0);
         feastFault("cake 0 0" + times(";slice 0 1", 10) + "; slice", 8 + 100 + 2, 4);
+        feastFault(times(";", 400), 0, 0);
+        feastFault("cake 0 0" + times(" ", 391) + ";", 400, 0);
+        due("400 bytes", feastOf(new RueCake(), times(" ", 392) + "cake 0 0"), 0);
         feastFault("cake 0 0" + times(";guest 0", 5) + ";guest 0", 8 + 40 + 1, 4);
         feastFault("cake 0 0" + times(";guest 0", 5) + ";guests 0", 8 + 40 + 1, 0);
     }
@@ -294,6 +297,7 @@ public final class PromiseTest {
         ruleFault("take sizes", 5, 0);
         ruleFault("take if", 5, 0);
         ruleFault("take take", 5, 0);
+        ruleFault("take cake", 5, 0);
         ruleFault("take 1;", 7, 0);
         ruleFault("take 1 take 2", 7, 0);
         ruleFault("take 1 if mine = 1]", 18, 0);
@@ -326,6 +330,9 @@ public final class PromiseTest {
     private static void deepAndLongRules() {
         RueCake cake = new RueCake();
         due("ten deep", ruleOf(cake, "take 1 if " + times("[", 10) + "1=1" + times("]", 10)), 0);
+        for (int i = 0; i < 8; i++) {
+            due("a fault behind many values", ruleOf(cake, "take 1" + times("+1", 59) + "+"), fault(6 + 119, 0));
+        }
         due("ten nots", ruleOf(cake, "take 1 if " + times("not ", 10) + "1=1"), 1);
         due("ten of both, side by side", ruleOf(cake,
             "take 1 if " + times("not[", 5) + "1=1" + times("]", 5) + " or " + times("[not ", 5) + "1=1" + times("]", 5)), 2);
@@ -334,6 +341,9 @@ public final class PromiseTest {
         ruleFault("take 1 if " + times("not[", 5) + "not 1=1" + times("]", 5), 30, 2);
         ruleFault("take 1 if " + times("not[", 5) + "1=1 and [1=1]" + times("]", 5), 38, 2);
         due("sixty values", ruleOf(cake, "take 1" + times("+1", 59)), 3);
+        feastOf(cake, FEAST);
+        cake.force(3);
+        due("sixty is above 0", cake.turnOne(), 0);
         due("sixty of both", ruleOf(cake, "take 1" + times("+1", 56) + " if 1=1"), 4);
         ruleFault("take 1" + times("+1", 60), 5 + 120, 3);
         ruleFault("take 1" + times("+1", 59) + "+x", 5 + 120, 0);
@@ -675,6 +685,9 @@ public final class PromiseTest {
         cake = feasting("cake 0 0;slice 0 3;slice 0 1;slice 0 2;slice 0 4;guest 5");
         due("two", cake.needs(0, 0), 2);
         due("0 and 2: 5 before 8", cake.needs(0, 1), 5);
+        cake = feasting("cake 0 0" + times(";slice 0 9", 10) + ";guest 90");
+        due("all ten", cake.needs(0, 0), 10);
+        due("all ten as bits", cake.needs(0, 1), 1023);
     }
 
     private static void twos() {
@@ -817,6 +830,11 @@ public final class PromiseTest {
         cake = ruling("cake 0 0;slice 1 5;slice 2 1;slice 2 1;guest 9;guest 9", "take size if free=3");
         cake.force(0);
         due("what is kept is free still", cake.kept(2, 0), 2);
+        // by worth guest 1 envies with nothing kept; with kind 0 or kind 1 kept nobody does
+        cake = ruling("cake 0 0;slice 0 1;slice 1 1;slice 2 1;guest 9;guest 9;likes 1 0 2;likes 1 2 3", "take 9-kind");
+        cake.force(0);
+        due("one kind kept", cake.kept(2, 0), 1);
+        due("of two sets the least", cake.kept(2, 1), 1);
     }
 
     private static void games() {
