@@ -1478,28 +1478,26 @@ public final class RueCake {
         }
 
         int penceOf(Table table, int much, int guest) {
-            boolean alike = true;
+            int all = 0;
             for (int each = 0; each < feast.guests; each++) {
-                alike = alike && table.rues[each] == 0;
+                all += table.rues[each];
             }
-            int whole = 0;
-            for (int each = 0; each < feast.guests; each++) {
-                whole += alike ? 1 : table.rues[each];
-            }
+            boolean alike = all == 0;
+            int whole = alike ? feast.guests : all;
             if (whole <= 0) {
                 return NONE;
             }
+            int own = much * (alike ? 1 : table.rues[guest]);
             int over = much;
             int ahead = 0;
-            int lost = much * (alike ? 1 : table.rues[guest]) % whole;
             for (int each = 0; each < feast.guests; each++) {
                 int due = much * (alike ? 1 : table.rues[each]);
                 over -= due / whole;
-                if (due % whole > lost || due % whole == lost && each < guest) {
+                if (due % whole > own % whole || due % whole == own % whole && each < guest) {
                     ahead++;
                 }
             }
-            return much * (alike ? 1 : table.rues[guest]) / whole + (ahead < over ? 1 : 0);
+            return own / whole + (ahead < over ? 1 : 0);
         }
     }
 
