@@ -1774,13 +1774,14 @@ public final class RueCake {
             return set;
         }
 
+        /** Notes speak of what is behind a turn, turn 0 too: it goes by ahead of their being looked at. */
         private boolean fits(Rule rule, int last) {
             table.layOut();
             for (int n = 0; n <= last; n++) {
+                goOn(1, rule, 0);
                 if (!notesHold(n)) {
                     return false;
                 }
-                goOn(1, rule, 0);
             }
             return true;
         }
@@ -1817,7 +1818,8 @@ public final class RueCake {
             for (int i = 0; i <= MOST_RULES; i++) {
                 if ((fitting >> i & 1) != 0) {
                     table.layOut();
-                    goOn(n, ruleOf(i - 1), 0);
+                    // Turns are numbered from 0 on, so the n-th has gone by only when n + 1 have.
+                    goOn(n + 1, ruleOf(i - 1), 0);
                     System.arraycopy(table.owners, 0, seen, i * MOST_SLICES, MOST_SLICES);
                 }
             }

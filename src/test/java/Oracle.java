@@ -934,9 +934,10 @@ final class Oracle {
         return w.notes.size();
     }
 
-    private World fromBegin(int rule, int n) {
+    /** What is behind the TURN of number n, that TURN done. */
+    private World behind(int rule, int n) {
         World v = w.atBegin();
-        for (int i = 0; i < n; i++) {
+        while (v.turn <= n) {
             turn(v, ruleOf(rule), Set.of());
         }
         return v;
@@ -946,7 +947,7 @@ final class Oracle {
         List<Integer> list = new ArrayList<>();
         for (int r = NONE; r < rules.size(); r++) {
             int rule = r;
-            if (w.notes.stream().allMatch(t -> fromBegin(rule, t[0]).owner.get(t[1]) == t[2])) {
+            if (w.notes.stream().allMatch(t -> behind(rule, t[0]).owner.get(t[1]) == t[2])) {
                 list.add(r);
             }
         }
@@ -971,7 +972,7 @@ final class Oracle {
         for (int s = 0; s < w.slices() && !list.isEmpty(); s++) {
             int[] many = new int[6];
             for (int r : list) {
-                many[fromBegin(r, n).owner.get(s) + 1]++;
+                many[behind(r, n).owner.get(s) + 1]++;
             }
             int most = Arrays.stream(many).max().getAsInt();
             if (best == -2 || most < fewest) {

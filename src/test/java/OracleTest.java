@@ -180,7 +180,7 @@ public final class OracleTest {
         int turn = random.nextInt(12) == 0 ? -1 : n;
         int whose = random.nextInt(4) == 0 ? -1 : b;
         if (oracle.count(6) == 0 && random.nextInt(3) != 0) {
-            whose = Math.max(-1, oracle.ahead(a, turn, 0));
+            whose = Math.max(-1, oracle.ahead(a, turn + 1, 0));
         }
         due("note " + turn + " " + a + " " + whose, cake.note(turn, a, whose), oracle.note(turn, a, whose));
     }

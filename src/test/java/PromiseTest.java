@@ -906,52 +906,95 @@ public final class PromiseTest {
         due("no act", cake.count(11), 0);
     }
 
+    /**
+     * By turns 0 to 3, rule 0: 1 takes 4, 0 takes 2, 1 takes 1, 0 takes 0; rule 1: 1 takes 3, 0 takes 0,
+     * nothing, 0 takes 1; rule 2 as none.
+     */
+    private static RueCake ruledByThree() {
+        return ruling(FEAST, "take 10-size", "take size", "take worth");
+    }
+
     private static void ruled() {
-        RueCake cake = ruling(FEAST, "take 10-size", "take size", "take worth");
+        RueCake cake = ruledByThree();
         due("all four", cake.ruled(0), 4);
         due("none first", cake.ruled(1), -1);
-        cake.note(1, 4, 1);
+        cake.note(0, 4, 1);
         due("rule 0 alone", cake.ruled(0), 1);
         due("that is 0", cake.ruled(1), 0);
         cake.note(-1, 0, 0);
-        cake.note(1, 1, 1);
+        cake.note(0, 1, 1);
         due("none and 2", cake.ruled(0), 2);
         due("none ahead", cake.ruled(1), -1);
-        cake.note(0, 1, -1);
-        due("behind the 0th nobody", cake.ruled(0), 2);
+        cake.note(0, 0, -1);
+        due("behind turn 0 slice 0 is free still", cake.ruled(0), 2);
+        cake.note(1, 0, 0);
+        due("behind turn 1 it is taken", cake.ruled(0), 2);
         cake.turnOne();
         cake.stir(1);
         cake.take(0, 3);
         due("from the begin on, as told", cake.ruled(0), 2);
         cake.note(-1, 0, 0);
-        cake.note(1, 3, 1);
+        cake.note(0, 3, 1);
         due("rule 1", cake.ruled(1), 1);
-        cake.note(1, 3, 0);
+        cake.note(0, 3, 0);
         due("no rule", cake.ruled(0), 0);
         due("no first", cake.ruled(1), -2);
         due("what 2", cake.ruled(2), -3);
         due("what -1", cake.ruled(-1), -3);
+        ruledLater();
+    }
+
+    private static void ruledLater() {
+        RueCake cake = ruledByThree();
+        cake.note(2, 1, 1);
+        due("behind turn 2 all but rule 1", cake.ruled(0), 3);
+        cake.note(1, 1, -1);
+        due("ahead of it rule 0 alone, whatever is told first", cake.ruled(0), 1);
+        due("that is 0 again", cake.ruled(1), 0);
+        cake = ruling("cake 0 0;slice 0 1;guest 9", "take turn-59", "take turn-60");
+        cake.note(60, 0, 0);
+        due("turn 60 is looked at, turn 61 not", cake.ruled(0), 2);
+        cake.note(59, 0, -1);
+        due("taken at turn 60 itself", cake.ruled(0), 1);
+        due("by rule 0", cake.ruled(1), 0);
+        cake = feasting("cake 0 0;slice 0 1");
+        cake.note(0, 0, -1);
+        due("without guests nobody has it", cake.ruled(0), 1);
+        cake = feasting("cake 1 0;slice 0 1;guest 9;guest 9");
+        cake.note(0, 0, 0);
+        due("who begins takes it", cake.ruled(0), 0);
+        cake.note(-1, 0, 0);
+        cake.note(0, 0, 1);
+        due("that is guest 1", cake.ruled(0), 1);
     }
 
     private static void looks() {
-        RueCake cake = ruling(FEAST, "take 10-size", "take size", "take worth");
-        // behind turn 1: none and 2 have taken slice 1, rule 0 slice 4, rule 1 slice 3
-        due("slice 1 parts two and two", cake.look(1, 0), 1);
-        due("two alike", cake.look(1, 1), 2);
-        due("behind turn 0 all alike", cake.look(0, 0), 0);
-        due("four alike", cake.look(0, 1), 4);
-        due("n 60", cake.look(60, 1) < 4 ? 1 : 0, 1);
-        cake.note(1, 1, -1);
-        due("rules 0 and 1 part by slice 3", cake.look(1, 0), 3);
-        due("one alike", cake.look(1, 1), 1);
+        RueCake cake = ruledByThree();
+        due("slice 1 parts two and two", cake.look(0, 0), 1);
+        due("two alike", cake.look(0, 1), 2);
+        due("behind turn 1 too", cake.look(1, 0), 1);
+        due("two alike still", cake.look(1, 1), 2);
+        due("behind turn 2 each slice parts three and one", cake.look(2, 0), 0);
+        due("three alike", cake.look(2, 1), 3);
+        due("behind turn 3 all have taken slice 0", cake.look(3, 0), 1);
+        due("three alike then", cake.look(3, 1), 3);
+        cake.note(0, 1, -1);
+        due("rules 0 and 1 part by slice 3", cake.look(0, 0), 3);
+        due("one alike", cake.look(0, 1), 1);
+        due("by slice 0 behind turn 1", cake.look(1, 0), 0);
         due("n 61", cake.look(61, 0), -1);
         due("n -1", cake.look(-1, 0), -1);
         due("what 2", cake.look(0, 2), -1);
+        due("what -1", cake.look(0, -1), -1);
         cake.note(0, 0, 0);
         due("no rule is so", cake.look(1, 0), -2);
         due("none alike", cake.look(1, 1), -2);
         due("no slices", feasting("cake 0 0;guest 1").look(1, 0), -2);
         due("no slices, how many", feasting("cake 0 0;guest 1").look(1, 1), -2);
+        cake = ruling("cake 0 0;slice 0 1;guest 9", "take turn-59");
+        due("not taken behind turn 59", cake.look(59, 1), 1);
+        due("taken at turn 60", cake.look(60, 1), 2);
+        due("the one slice all the same", cake.look(60, 0), 0);
     }
 
     private static void seeds() {
