@@ -402,15 +402,18 @@ public final class RueCake {
         if (!now.feast.told || what < 0 || what > 1) {
             return REFUSED;
         }
-        outlook.findRules(ruleCount);
-        return what == 0 ? outlook.much : outlook.which;
+        int fitting = outlook.fittingRules(ruleCount);
+        if (what == 0) {
+            return Integer.bitCount(fitting);
+        }
+        return fitting == 0 ? WITHOUT : Integer.numberOfTrailingZeros(fitting) - 1;
     }
 
     public int look(int n, int what) {
         if (!now.feast.told || n < 0 || n > MOST_TURNS || what < 0 || what > 1) {
             return NONE;
         }
-        outlook.bestToLookAt(n, ruleCount);
+        outlook.bestToLookAt(n, outlook.fittingRules(ruleCount));
         return what == 0 ? outlook.which : outlook.much;
     }
 
@@ -665,7 +668,8 @@ public final class RueCake {
         }
 
         int worth(int slice, int guest) {
-            return hasSlice(slice) && hasGuest(guest) ? worths[guest * MOST_SLICES + slice] : 0;
+            boolean known = slice >= 0 && slice < slices && guest >= 0 && guest < guests;
+            return known ? worths[guest * MOST_SLICES + slice] : 0;
         }
 
         /** Whether the text is a feast; the text has its fault, if not. */
@@ -929,46 +933,50 @@ public final class RueCake {
 
         /** A + or - waits for the * / % behind it, as these bind closer. */
         private boolean readSum() {
-            int waiting = NONE;
-            if (!readValue()) {
-                return false;
-            }
-            int order = reckoning(text.piece);
-            for (int i = 0; i < MOST_BYTES && order != NONE; i++) {
-                boolean loose = order == DO_PLUS || order == DO_MINUS;
-                if (loose) {
-                    put(waiting);
-                    waiting = order;
+            int loose = NONE;
+            int tight = NONE;
+            for (int i = 0; i <= MOST_PARTS; i++) {
+                int why = faultOfValue();
+                if (why != NONE) {
+                    return text.refuse(why);
+                }
+                parts++;
+                put(codeOfValue());
+                put(tight);
+                text.next();
+                int order = reckoning(text.piece);
+                boolean bindsClose = order == DO_TIMES || order == DO_DIVIDE || order == DO_REST;
+                tight = bindsClose ? order : NONE;
+                if (!bindsClose) {
+                    put(loose);
+                    loose = order;
+                }
+                if (order == NONE) {
+                    return true;
                 }
                 text.next();
-                if (!readValue()) {
-                    return false;
-                }
-                if (!loose) {
-                    put(order);
-                }
-                order = reckoning(text.piece);
             }
-            put(waiting);
-            return true;
+            return text.refuse(FAULT_PARTS);
         }
 
-        private boolean readValue() {
+        /** Why the piece that is being looked at can be no value here; NONE: it can. */
+        private int faultOfValue() {
             int word = text.piece - FIRST_NAME;
             boolean isNumber = text.piece == NUMBER;
             if (!isNumber && (word < 0 || word >= WORDS)) {
-                return text.refuse(FAULT_SIGN);
+                return FAULT_SIGN;
             }
             if (isNumber && text.number < 0) {
-                return text.refuse(FAULT_NUMBER);
+                return FAULT_NUMBER;
             }
-            if (parts >= MOST_PARTS) {
-                return text.refuse(FAULT_PARTS);
+            return parts >= MOST_PARTS ? FAULT_PARTS : NONE;
+        }
+
+        private int codeOfValue() {
+            if (text.piece == NUMBER) {
+                return text.number << ORDER_BITS | DO_NUMBER;
             }
-            parts++;
-            put(isNumber ? text.number << ORDER_BITS | DO_NUMBER : word << ORDER_BITS | DO_WORD);
-            text.next();
-            return true;
+            return text.piece - FIRST_NAME << ORDER_BITS | DO_WORD;
         }
 
         private void put(int order) {
@@ -1700,7 +1708,7 @@ public final class RueCake {
                 if (table.slicesOf(NONE) == 0) {
                     return table.turn;
                 }
-                goOn(1, ruleInForce(), 0);
+                turns.goOn(table, ruleInForce(), 0);
             }
             return WITHOUT;
         }
@@ -1752,17 +1760,10 @@ public final class RueCake {
             }
         }
 
-        /** How many rules are as the notes say, none being one of them, and the first of these. */
-        void findRules(int count) {
-            int fitting = fittingRules(count);
-            much = Integer.bitCount(fitting);
-            which = fitting == 0 ? WITHOUT : Integer.numberOfTrailingZeros(fitting) - 1;
-        }
-
-        /** As bits: none is bit 0, rule r bit r + 1. */
-        private int fittingRules(int count) {
+        /** The rules that are as the notes say, as bits: none is bit 0, rule r bit r + 1. */
+        int fittingRules(int count) {
             int last = 0;
-            for (int i = 0; i < now.notes; i++) {
+            for (int i = 0; i < now.notes && i < MOST_NOTES; i++) {
                 last = Math.max(last, now.noteTurns[i]);
             }
             int set = 0;
@@ -1778,7 +1779,7 @@ public final class RueCake {
         private boolean fits(Rule rule, int last) {
             table.layOut();
             for (int n = 0; n <= last; n++) {
-                goOn(1, rule, 0);
+                turns.goOn(table, rule, 0);
                 if (!notesHold(n)) {
                     return false;
                 }
@@ -1796,8 +1797,7 @@ public final class RueCake {
         }
 
         /** WITHOUT for both: there is nothing to look at. */
-        void bestToLookAt(int n, int count) {
-            int fitting = fittingRules(count);
+        void bestToLookAt(int n, int fitting) {
             which = WITHOUT;
             much = WITHOUT;
             if (fitting == 0) {
@@ -1818,8 +1818,9 @@ public final class RueCake {
             for (int i = 0; i <= MOST_RULES; i++) {
                 if ((fitting >> i & 1) != 0) {
                     table.layOut();
-                    // Turns are numbered from 0 on, so the n-th has gone by only when n + 1 have.
-                    goOn(n + 1, ruleOf(i - 1), 0);
+                    for (int turn = 0; turn <= n; turn++) {
+                        turns.goOn(table, ruleOf(i - 1), 0);
+                    }
                     System.arraycopy(table.owners, 0, seen, i * MOST_SLICES, MOST_SLICES);
                 }
             }
@@ -1852,7 +1853,7 @@ public final class RueCake {
                         x = afterDraw(x);
                         table.addRue(x / 65536 % feast.guests);
                     }
-                    goOn(1, ruleInForce(), 0);
+                    turns.goOn(table, ruleInForce(), 0);
                 }
                 which += Integer.bitCount(table.slicesOf(NONE));
                 much += feast.guests - Integer.bitCount(table.contented());

@@ -1,4 +1,6 @@
 import java.io.IOException;
+import java.io.PrintWriter;
+import java.io.StringWriter;
 import java.lang.management.ManagementFactory;
 import java.lang.reflect.Constructor;
 import java.lang.reflect.Field;
@@ -8,10 +10,13 @@ import java.nio.file.Files;
 import java.nio.file.Path;
 import java.util.ArrayList;
 import java.util.List;
+import java.util.Map;
 import java.util.Set;
+import java.util.TreeMap;
 import java.util.TreeSet;
 import java.util.regex.Matcher;
 import java.util.regex.Pattern;
+import java.util.spi.ToolProvider;
 
 /** What of LANGUAGE.md can be seen in the source, in the class, and in the room that calls need. */
 public final class LanguageTest {
@@ -30,6 +35,7 @@ public final class LanguageTest {
         methodLengths(source);
         face();
         members();
+        depths();
         room();
         WRONG.forEach(System.out::println);
         System.out.println(WRONG.isEmpty() ? "the language is kept" : WRONG.size() + " places are not");
@@ -121,6 +127,63 @@ public final class LanguageTest {
             }
             check(own <= 20, "too many fields: " + c);
         }
+    }
+
+    /** Each call of the face opens at most eight methods at once, itself one of them, but for recursion. */
+    private static void depths() {
+        Map<String, Set<String>> calls = callsInside();
+        for (String name : FACE.split(" ")) {
+            String method = "RueCake." + name.replaceAll("\\d", "");
+            check(calls.containsKey(method), "no calls seen of " + method);
+            List<String> longest = longestChain(method, calls, new ArrayList<>());
+            check(longest.size() <= 8, "too deep: " + longest);
+        }
+    }
+
+    private static List<String> longestChain(String method, Map<String, Set<String>> calls, List<String> open) {
+        List<String> longest = new ArrayList<>();
+        open.add(method);
+        for (String next : calls.getOrDefault(method, Set.of())) {
+            List<String> chain = open.contains(next) ? List.of() : longestChain(next, calls, open);
+            if (chain.size() > longest.size()) {
+                longest = chain;
+            }
+        }
+        open.remove(open.size() - 1);
+        longest.add(0, method);
+        return longest;
+    }
+
+    /** Of each method those of the class and the classes inside it that its code calls. */
+    private static Map<String, Set<String>> callsInside() {
+        Map<String, Set<String>> calls = new TreeMap<>();
+        List<Class<?>> classes = new ArrayList<>(List.of(RueCake.class.getDeclaredClasses()));
+        classes.add(RueCake.class);
+        for (Class<?> c : classes) {
+            String method = "";
+            for (String line : codeOf(c).split("\\R")) {
+                Matcher head = Pattern.compile("^  \\S.*?([\\w$]+)\\([^)]*\\);$").matcher(line);
+                Matcher call = Pattern.compile("// Method (?:(RueCake[\\w$]*)\\.)?(\"?[\\w<>]+\"?):").matcher(line);
+                if (head.find()) {
+                    String name = head.group(1);
+                    method = c.getName() + "." + (name.equals(c.getName()) ? "<init>" : name);
+                    calls.put(method, new TreeSet<>());
+                } else if (call.find() && calls.containsKey(method)) {
+                    String whose = call.group(1) == null ? c.getName() : call.group(1);
+                    calls.get(method).add(whose + "." + call.group(2).replace("\"", ""));
+                }
+            }
+        }
+        return calls;
+    }
+
+    private static String codeOf(Class<?> c) {
+        StringWriter out = new StringWriter();
+        PrintWriter printer = new PrintWriter(out);
+        ToolProvider.findFirst("javap").orElseThrow().run(printer, printer,
+            "-p", "-c", "-cp", System.getProperty("java.class.path"), c.getName());
+        printer.flush();
+        return out.toString();
     }
 
     /** Asking makes no objects at all, so that a run needs no more room than its objects. */
