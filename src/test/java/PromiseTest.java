@@ -1,87 +1,5 @@
 /** The promises one by one, with answers worked out by hand from the document. */
-public final class PromiseTest {
-    /**
-     * Worth of slices 0 to 4: to guest 0: 8 3 4 0 1; to guest 1: 4 9 2 6 3. Without a rule guest 1
-     * takes slice 1 at turn 0, guest 0 slice 0 at turn 1 and slice 2 at turn 3; that makes up.
-     */
-    private static final String FEAST = "cake 1 5;slice 0 4;slice 1 3;slice 0 2;slice 2 6;slice 1 1;"
-        + "guest 10;guest 6;likes 0 0 2;likes 0 1 1;likes 0 2 0;likes 1 0 1;likes 1 1 3;likes 1 2 1";
-
-    private static int wrong = 0;
-    private static int asked = 0;
-
-    private static void due(String what, int got, int want) {
-        asked++;
-        if (got != want) {
-            wrong++;
-            System.out.println(what + ": answered " + got + ", due is " + want);
-        }
-    }
-
-    /** Puts a text on an empty tape. */
-    private static RueCake type(RueCake cake, String text) {
-        cake.end(0);
-        for (int from = 0; from < text.length(); from += 20) {
-            int[] five = new int[5];
-            for (int i = 0; i < 20; i++) {
-                five[i / 4] = five[i / 4] << 8 | (from + i < text.length() ? text.charAt(from + i) & 255 : 0);
-            }
-            cake.feed(five[0], five[1], five[2], five[3], five[4]);
-        }
-        due("end of a text", cake.end(text.length()), text.length());
-        return cake;
-    }
-
-    private static int feastOf(RueCake cake, String text) {
-        return type(cake, text).feast();
-    }
-
-    private static int ruleOf(RueCake cake, String text) {
-        return type(cake, text).rule();
-    }
-
-    private static RueCake feasting(String text) {
-        RueCake cake = new RueCake();
-        int slices = feastOf(cake, text);
-        due("feast " + text + " stands", slices < 0 ? slices : 0, 0);
-        return cake;
-    }
-
-    private static RueCake ruling(String feast, String... rules) {
-        RueCake cake = feasting(feast);
-        for (int i = 0; i < rules.length; i++) {
-            due("rule " + rules[i], ruleOf(cake, rules[i]), i);
-        }
-        return cake;
-    }
-
-    /** The answer for a fault. */
-    private static int fault(int place, int why) {
-        return -2 - (1 + 8 * place + why);
-    }
-
-    private static void feastFault(String text, int place, int why) {
-        due("fault of feast " + text, feastOf(new RueCake(), text), fault(place, why));
-    }
-
-    private static void ruleFault(String text, int place, int why) {
-        due("fault of rule " + text, ruleOf(new RueCake(), text), fault(place, why));
-    }
-
-    private static String times(String text, int n) {
-        return text.repeat(n);
-    }
-
-    /** The slices' guests as a number, slice 0 the highest digit; free is 9. */
-    private static int owners(RueCake cake) {
-        int all = 0;
-        for (int slice = 0; slice < cake.count(2); slice++) {
-            int who = cake.slice(slice, 2);
-            all = all * 10 + (who == RueCake.NONE ? 9 : who);
-        }
-        return all;
-    }
-
+public final class PromiseTest extends Checks {
     public static void main(String[] args) {
         newObject();
         tape();
@@ -120,10 +38,7 @@ public final class PromiseTest {
         flames();
         counts();
         images();
-        System.out.println(wrong == 0 ? asked + " answers are as due" : wrong + " answers are not as due");
-        if (wrong != 0) {
-            System.exit(1);
-        }
+        tellAndEnd();
     }
 
     private static void newObject() {
@@ -352,13 +267,6 @@ public final class PromiseTest {
         ruleFault("take 1" + times("+1", 57) + " if 1=1", 6 + 114 + 6, 3);
         ruleFault("take 1" + times("+1", 59) + " if size", 6 + 118 + 4, 3);
         ruleFault("take 1" + times("+1", 59) + ";take 2", 6 + 118 + 6, 3);
-    }
-
-    /** Which slice of five a guest takes by a rule, at the first turn. */
-    private static void takesBy(String rule, int slice) {
-        RueCake cake = ruling(FEAST, rule);
-        cake.force(0);
-        due("taken by " + rule, cake.turnOne(), slice);
     }
 
     private static void sums() {
