@@ -30,6 +30,8 @@ public final class ActEdgeTest extends Checks {
         counts();
         imagesMade();
         imagesGoneBackTo();
+        imagesOfNotes();
+        imagesOfAFeast();
         tellAndEnd();
     }
 
@@ -585,5 +587,73 @@ public final class ActEdgeTest extends Checks {
         due("goes on from there", cake.turnOne(), 2);
         due("that can be undone", cake.undo(), 0);
         due("image 0 still stands", cake.back(0), 0);
+    }
+
+    /** "all but the TAPE and the RULES, as it is": each part of each note */
+    private static void imagesOfNotes() {
+        String feast = "cake 0 0;slice 0 1;slice 0 1;guest 9;guest 9";
+        // by none slice 0 is guest 0's from turn 0 on, slice 1 guest 1's from turn 1 on
+        int[][] notes = {{0, 0, 0}, {0, 1, -1}, {1, 1, 1}, {60, 0, 0}};
+        int[][] others = {{0, 1, 0}, {1, 1, -1}, {0, 1, 1}, {60, 0, 1}};
+        for (int i = 0; i < notes.length; i++) {
+            RueCake cake = feasting(feast);
+            cake.note(notes[i][0], notes[i][1], notes[i][2]);
+            cake.image(1);
+            due("it is so", cake.ruled(0), 1);
+            cake.note(-1, 0, 0);
+            cake.note(others[i][0], others[i][1], others[i][2]);
+            cake.image(2);
+            due("another one is not", cake.ruled(0), 0);
+            cake.back(1);
+            due("so again", cake.ruled(0) * 100 + cake.count(10), 101);
+            cake.back(2);
+            due("not so again", cake.ruled(0) * 100 + cake.count(10), 1);
+        }
+        RueCake cake = feasting(feast);
+        for (int many = 1; many <= 10; many++) {
+            cake.note(0, 0, 0);
+        }
+        cake.image(0);
+        cake.note(-1, 0, 0);
+        cake.image(3);
+        cake.back(0);
+        due("ten", cake.count(10), 10);
+        due("no eleventh", cake.note(0, 0, 0), -2);
+        cake.back(3);
+        due("none", cake.count(10), 0);
+        due("the first", cake.note(0, 0, 0), 1);
+    }
+
+    /** "gone back to, it is as it was": all that a feast tells, and none */
+    private static void imagesOfAFeast() {
+        RueCake cake = new RueCake();
+        due("nothing", cake.image(3), 0);
+        ruleOf(cake, "take size");
+        feastOf(cake, "cake 3 7;slice 2 9;slice 1 4;guest 8;guest 50;likes 1 2 5");
+        cake.force(0);
+        cake.seed(12);
+        cake.turnOne();
+        cake.image(0);
+        feastOf(cake, "cake 1 2;slice 3 1;guest 99;guest 1;guest 2;likes 1 2 9;likes 0 1 9");
+        cake.force(-1);
+        cake.seed(13);
+        due("gone back", cake.back(0), 1);
+        int[] counts = {3, 7, 2, 2, 1, 0, 1, 0, 2, 0, 0, 0, 12, 0};
+        for (int what = 0; what < counts.length; what++) {
+            due("count " + what, cake.count(what), counts[what]);
+        }
+        due("kinds and sizes", cake.slice(0, 0) * 1000 + cake.slice(0, 1) * 100 + cake.slice(1, 0) * 10 + cake.slice(1, 1), 2914);
+        due("worth", cake.guest(1, 1), 45);
+        due("likes", cake.guest(1, 5) * 100 + cake.guest(0, 4) * 10 + cake.guest(1, 3), 511);
+        due("rues", cake.guest(0, 0) * 100 + cake.guest(1, 0), 850);
+        due("no notes: the rule and none", cake.ruled(0), 2);
+        due("nothing again", cake.back(3), 0);
+        int[] none = {0, 0, 0, 0, 1, -1, 0, -1, 0, 0, 0, 0, 0, 0};
+        for (int what = 0; what < none.length; what++) {
+            due("count " + what + " of nothing", cake.count(what), none[what]);
+        }
+        due("no feast", cake.envy(), -1);
+        due("and back", cake.back(0), 1);
+        due("the feast", cake.envy(), 1);
     }
 }

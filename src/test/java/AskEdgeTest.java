@@ -290,6 +290,13 @@ public final class AskEdgeTest extends Checks {
         cake.take(0, 1);
         cake.take(2, 3);
         twosAre(cake, 0, -2, -2);
+        // as much is not more: of one of the two, of the other, of both
+        for (int likes = 0; likes < 9; likes++) {
+            cake = feasting("cake 0 0;slice 0 1;slice 1 1;guest 0;guest 0;likes 0 1 " + likes % 3 + ";likes 1 0 " + likes / 3);
+            cake.take(0, 0);
+            cake.take(1, 1);
+            twosAre(cake, likes == 8 ? 1 : 0, likes == 8 ? 0 : -2, likes == 8 ? 1 : -2);
+        }
         cake = feasting("cake 0 0" + times(";slice 0 1", 5) + times(";slice 1 1", 5) + ";guest 0;guest 0;likes 0 1 2;likes 1 0 2");
         for (int slice = 0; slice < 10; slice++) {
             cake.take(slice / 5, slice);
@@ -326,6 +333,20 @@ public final class AskEdgeTest extends Checks {
         roundIs("cake 0 0;slice 1 1;slice 1 1;slice 1 1;guest 0;guest 0;likes 0 1 0;likes 1 1 0", 0, 0, 0, 1);
         roundIs("cake 0 0;slice 0 2;slice 1 2;guest 0;guest 0;likes 0 0 0;likes 1 1 0", 2, 1, 0);
         roundIs("cake 0 0;slice 0 2;slice 1 2;slice 2 2;guest 0;guest 0;guest 0;likes 0 2 9;likes 1 0 9;likes 2 1 9", 18, 1, 2, 0);
+        // side by side alone: 0 1 0 1 would be 10 for both
+        roundIs("cake 0 0;slice 0 5;slice 1 5;slice 0 5;slice 1 5;guest 0;guest 0;likes 0 1 0;likes 1 0 0", 5, 0, 0, 0, 1);
+        roundIs("cake 0 0;slice 0 5;slice 1 5;slice 2 5;slice 1 5;guest 0;guest 0;guest 0"
+            + ";likes 0 1 0;likes 0 2 0;likes 1 0 0;likes 1 2 0;likes 2 0 0;likes 2 1 0", 5, 0, 0, 2, 1);
+        // nobody has two pieces: 0 1 0 2 and 1 0 2 0 would come ahead of these
+        String each = "guest 0;guest 0;guest 0;likes 0 1 0;likes 0 2 0;likes 0 3 0;likes 1 0 0;likes 1 2 0;likes 1 3 0"
+            + ";likes 2 0 0;likes 2 1 0;likes 2 3 0";
+        roundIs("cake 0 0;slice 0 5;slice 1 5;slice 3 5;slice 2 5;" + each, 5, 0, 1, 1, 2);
+        roundIs("cake 0 0;slice 1 5;slice 0 5;slice 2 5;slice 3 5;" + each, 5, 1, 0, 2, 1);
+        // round the end, the others between in each order: 2, then 1; 1, then 2
+        roundIs("cake 0 0;slice 0 1;slice 2 9;slice 1 9;slice 0 8;guest 0;guest 0;guest 0;likes 1 2 0;likes 2 1 0", 9, 0, 2, 1, 0);
+        roundIs("cake 0 0;slice 0 1;slice 1 9;slice 2 9;slice 0 8;guest 0;guest 0;guest 0;likes 1 2 0;likes 2 1 0", 9, 0, 1, 2, 0);
+        roundIs("cake 0 0;slice 0 1;slice 2 9;slice 1 9;slice 0 8;guest 0;guest 0;guest 0;likes 0 1 0;likes 0 2 0;likes 0 0 0;"
+            + "likes 1 0 9;likes 1 1 0;likes 1 2 0;likes 2 1 9", 0, 0, 0, 1, 2);
         roundIs("cake 0 0" + times(";slice 0 1", 5) + times(";guest 0", 5), 1, 0, 1, 2, 3, 4);
         roundIs("cake 0 0" + times(";slice 0 1", 6) + times(";guest 0", 5), 1, 0, 0, 1, 2, 3, 4);
         roundIs("cake 0 0" + times(";slice 0 1", 10) + times(";guest 0", 5), 2, 0, 0, 1, 1, 2, 2, 3, 3, 4, 4);
@@ -438,6 +459,8 @@ public final class AskEdgeTest extends Checks {
         // with FIRST 0 or 1 guest 1 takes it, with 2 guest 2
         due("the least of two", cake.begin(1, 60, 0), 0);
         due("one alone", cake.begin(2, 60, 0), 2);
+        due("of several the least, whatever was asked before", cake.begin(0, 60, 0), 0);
+        due("nothing still", cake.begin(0, 60, 1), 0);
         due("one guest", feasting("cake 4 0;slice 0 9;guest 5").begin(0, 1, 0), 0);
         for (int what = 0; what < 2; what++) {
             int asked = what;
@@ -557,6 +580,26 @@ public final class AskEdgeTest extends Checks {
         due("the other one first", cake.game(1, 0, 1, 0) * 10 + cake.game(1, 0, 1, 1), 50);
         cake = feasting("cake 0 0;slice 1 5;guest 0;guest 0;likes 0 1 0");
         gameIs(cake, 1, 0, 0);
+        // whoever likes none takes one all the same
+        cake = feasting("cake 0 0;slice 0 5;slice 0 5;slice 0 5;slice 0 5;guest 0;guest 0;likes 1 0 0");
+        gameIs(cake, 2, 5, 0);
+        gameIs(cake, 3, 10, 0);
+        gameIs(cake, 4, 10, 0);
+        cake = feasting("cake 0 0;slice 0 5;slice 0 4;guest 0;guest 0;likes 0 0 0");
+        gameIs(cake, 1, 0, 0);
+        gameIs(cake, 2, -4, 0);
+        // the greatest is at hand wherever it lies
+        cake = feasting("cake 0 0;slice 0 9;slice 0 8;slice 0 4;slice 0 2;slice 0 1;guest 0;guest 0");
+        gameIs(cake, 1, 9, 0);
+        gameIs(cake, 2, 1, 0);
+        gameIs(cake, 3, 5, 0);
+        gameIs(cake, 4, 3, 0);
+        cake = feasting("cake 0 0;slice 0 1;slice 0 8;slice 0 9;slice 0 2;slice 0 4;guest 0;guest 0");
+        gameIs(cake, 3, 5, 2);
+        gameIs(cake, 4, 3, 2);
+        cake = feasting("cake 0 0;slice 0 7;slice 0 7;slice 0 7;guest 0;guest 0");
+        gameIs(cake, 1, 7, 0);
+        gameIs(cake, 4, 7, 0);
         gameIs(feasting("cake 0 0;guest 0;guest 0"), 4, 0, -1);
         cake = feasting("cake 0 0" + times(";slice 0 9", 10) + times(";guest 0", 5) + ";likes 4 0 9");
         for (int slice = 0; slice < 10; slice++) {
@@ -818,6 +861,15 @@ public final class AskEdgeTest extends Checks {
         for (int rest : new int[] {0, 1, 50, 98, 99}) {
             RueCake cake = feasting("cake 0 1;slice 0 1;guest 0");
             cake.seed(beforeDraw(rest));
+            flamesAre(cake, 1, 1, rest, two(1, 0));
+            flamesAre(cake, 1, 1, rest + 1, two(0, 0));
+        }
+        for (int x = 0; x < 300; x++) {
+            // a draw is x / 65536, at whichever of its ends x is: the rest by 100 is below one more, not below itself
+            int seed = x * 7158278;
+            int rest = next(seed) / 65536 % 100;
+            RueCake cake = feasting("cake 0 1;slice 0 1;guest 0");
+            due("seeded", cake.seed(seed), 0);
             flamesAre(cake, 1, 1, rest, two(1, 0));
             flamesAre(cake, 1, 1, rest + 1, two(0, 0));
         }

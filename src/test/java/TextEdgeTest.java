@@ -12,6 +12,7 @@ public final class TextEdgeTest extends Checks {
         ruleIsFaulty();
         ruleTooMany();
         forced();
+        fullTapes();
         fortyClauses();
         cakeOnceAndFirst();
         numbersOfAFeast();
@@ -22,11 +23,16 @@ public final class TextEdgeTest extends Checks {
         twelveClauses();
         numbersOfARule();
         words();
+        wordsOfEachSlice();
         blanks();
+        signs();
+        sumsBind();
+        testsBind();
         divisions();
         sixtyFourBits();
         tenDeep();
         sixtyParts();
+        sixLongRules();
         everyByteOfAFeast();
         everyByteOfARule();
         ends();
@@ -94,6 +100,14 @@ public final class TextEdgeTest extends Checks {
         due("empty", cake.count(13), 0);
         cake = type(new RueCake(), times(" ", 400));
         due("401 of 400", cake.end(401), -1);
+        String[] texts = {"take 12", "take sizes", "take 1;take", "take 1 if 1<=1", "take 1 if 1<=1", "take 1 if 1<=2"};
+        int[] lengths = {6, 9, 7, 12, 13, 11};
+        int[] answers = {0, 0, fault(7, 0), fault(12, 0), fault(13, 0), fault(11, 0)};
+        for (int i = 0; i < texts.length; i++) {
+            RueCake cut = type(new RueCake(), texts[i]);
+            cut.end(lengths[i]);
+            due("what is cut off is not read: " + texts[i], cut.rule(), answers[i]);
+        }
         due("400 of 400", cake.end(400), 400);
         due("399 of 400", cake.end(399), 399);
     }
@@ -212,6 +226,23 @@ public final class TextEdgeTest extends Checks {
         }
         refused("force 0 of none", x -> { }, x -> x.force(0), -2);
         refused("force none of none", x -> { }, x -> x.force(-1), -1);
+    }
+
+    /** "a text of at most 400 bytes": all of them signs of their own */
+    private static void fullTapes() {
+        for (String sign : new String[] {";", "[", "]", "=", "<", "+", "A", "" + (char) 255, "" + (char) 0}) {
+            feastFault(times(sign, 400), 0, 0);
+            ruleFault(times(sign, 400), 0, 0);
+            feastFault("cake" + times(sign, 396), 4, 0);
+            ruleFault("take" + times(sign, 396), 4, 0);
+        }
+        feastFault("cake0 0" + times(";", 393), 8, 0);
+        ruleFault("take1" + times("+", 395), 6, 0);
+        ruleFault("take1if" + times("[", 393), 17, 2);
+        due("399 blanks and none", feastOf(new RueCake(), "cake 0 0" + times(" ", 391)), 0);
+        due("400 of a feast", feastOf(new RueCake(), "cake 0 0" + times(" ", 392)), 0);
+        due("400 of a rule", ruleOf(new RueCake(), "take 1" + times(" ", 394)), 0);
+        due("400 with its end", feastOf(new RueCake(), "cake 0 0" + times(" ", 383) + ";slice0 1"), 1);
     }
 
     /** "CLAUSE { ; CLAUSE }, 40 at most": 41 can't come in 400 bytes, so that 40 and what may follow is asked */
@@ -444,6 +475,84 @@ public final class TextEdgeTest extends Checks {
         due("as all words tell", cake.turnOne(), 2);
     }
 
+    /** Each word by its own worth to guest 1, slice by slice. */
+    private static void wordsOfEachSlice() {
+        int[] kinds = {0, 1, 0, 2, 1};
+        int[] sizes = {4, 3, 2, 6, 1};
+        int[] likes = {1, 3, 1, 1, 3};
+        for (int slice = 0; slice < 5; slice++) {
+            String here = "take 1 if slice=" + slice + " and ";
+            takesBy(here + "kind=" + kinds[slice], slice);
+            takesBy(here + "size=" + sizes[slice], slice);
+            takesBy(here + "likes=" + likes[slice], slice);
+            takesBy(here + "worth=" + sizes[slice] * likes[slice], slice);
+            takesBy(here + "guest=1 and has=0 and rue=6 and free=5 and beside=0 and mine=0 and turn=0", slice);
+        }
+    }
+
+    /** "SIGN one of < <= = >= >": below, the same and above, by each */
+    private static void signs() {
+        String[] signs = {"<", "<=", "=", ">=", ">"};
+        boolean[][] hold = {{true, false, false}, {true, true, false}, {false, true, false}, {false, true, true},
+            {false, false, true}};
+        String least = "32768*32768*32768*32768*8";
+        for (int i = 0; i < signs.length; i++) {
+            for (int number = 0; number < 3; number++) {
+                int taken = hold[i][number] ? 0 : -1;
+                takesBy("take 1 if " + number + signs[i] + "1", taken);
+                takesBy("take 1 if " + number + "-2 " + signs[i] + " 0-1", taken);
+                takesBy("take 1 if not " + number + signs[i] + "1", -1 - taken);
+                takesBy("take 1 if 1=1 and " + number + signs[i] + "1 and 1=1", taken);
+                takesBy("take 1 if " + number + "*65536*65536" + signs[i] + "65536*65536", taken);
+                // the two ends of what 64 bits hold lie farthest apart
+                String[] ends = {least, "0", least + "-1"};
+                takesBy("take 1 if " + ends[number] + signs[i] + "0", taken);
+                if (number != 1) {
+                    takesBy("take 1 if " + ends[number] + signs[i] + ends[2 - number], taken);
+                }
+            }
+        }
+    }
+
+    /** "SUM: TERM { (+ or -) TERM }. TERM: VALUE { (* or / or %) VALUE }." */
+    private static void sumsBind() {
+        String[] same = {"1+2*3=7", "1+6/2=4", "9-7%4=6", "2*3+1=7", "6/2+1=4", "7%4-9=0-6", "20-6-4=10", "20-6+4=18",
+            "100/5/2=10", "100/5*2=40", "100*2/5=40", "17%10%4=3", "2*9%4=2", "7%4*3=9", "7/4%3=1", "2+3*4-5=9",
+            "10-2*3-1=3", "10-12/3/2-1=7", "1+2+3*4*5+6=69", "0-1*2=0-2", "1-2-3=0-4", "2*3%4+5/2-1=3"};
+        for (String fact : same) {
+            takesBy("take 1 if " + fact, 0);
+            takesBy("take 2 if not " + fact + ";take slice", 4);
+        }
+    }
+
+    /** "TEST: PART { or PART }. PART: FACT { and FACT }. FACT: not FACT | [ TEST ]": all ways to join four */
+    private static void testsBind() {
+        for (int joins = 0; joins < 8; joins++) {
+            for (int facts = 0; facts < 16; facts++) {
+                StringBuilder plain = new StringBuilder("take 1 if 0=" + (facts & 1));
+                StringBuilder turned = new StringBuilder("take 1 if not 0=" + (1 - (facts & 1)));
+                boolean any = false;
+                boolean all = (facts & 1) == 0;
+                for (int i = 1; i < 4; i++) {
+                    boolean holds = (facts >> i & 1) == 0;
+                    boolean or = (joins >> i - 1 & 1) != 0;
+                    any = any || or && all;
+                    all = or ? holds : all && holds;
+                    plain.append(or ? " or 0=" : " and 0=").append(holds ? 0 : 1);
+                    turned.append(or ? " or [not 0=" : " and [not 0=").append(holds ? 1 : 0).append(']');
+                }
+                takesBy(plain.toString(), any || all ? 0 : -1);
+                takesBy(turned.toString(), any || all ? 0 : -1);
+            }
+        }
+        takesBy("take 1 if not 1=1 or 1=1", 0);
+        takesBy("take 1 if not [1=1 or 1=1]", -1);
+        takesBy("take 1 if not 1=0 and 1=0", -1);
+        takesBy("take 1 if not [1=0 and 1=0]", 0);
+        takesBy("take 1 if [1=1 or 1=1] and 1=0", -1);
+        takesBy("take 1 if 1=0 and [1=1 or 1=1]", -1);
+    }
+
     /** "Blanks (32) stand between as one likes" */
     private static void blanks() {
         due("none", ruleOf(new RueCake(), "take1+size*2if[size<3or not[kind=2]]and mine>=0;take2"), 0);
@@ -550,6 +659,23 @@ public final class TextEdgeTest extends Checks {
         due("sixty once more", ruleOf(cake, "take 1" + times("+1", 59)), 1);
         due("too many", ruleOf(cake, "take 1" + times("+1", 60)), fault(125, 3));
         due("sixty behind that", ruleOf(cake, "take 1" + times("+1", 59)), 2);
+    }
+
+    /** All six rules may be as long as a rule can be, whatever was refused between. */
+    private static void sixLongRules() {
+        RueCake cake = feasting(FEAST);
+        for (int number = 0; number < 6; number++) {
+            for (int i = 0; i < 5; i++) {
+                due("too long", ruleOf(cake, "take 1" + times("+1", 60)), fault(125, 3));
+            }
+            String sum = "take 58" + times("-1", 56);
+            due("rule " + number, ruleOf(cake, sum + " if slice=" + (number + 2) % 5), number);
+        }
+        for (int number = 0; number < 6; number++) {
+            cake.force(number);
+            due("taken by rule " + number, cake.turnOne(), (number + 2) % 5);
+            cake.undo();
+        }
     }
 
     private static boolean isDigit(int sign) {
