@@ -585,6 +585,8 @@ public final class TextEdgeTest extends Checks {
         takesBy("take 1 if " + least + "<0", 0);
         takesBy("take 1 if " + least + "/3*3<0", 0);
         takesBy("take 1 if " + least + "%3=0-2", 0);
+        takesBy("take 1 if " + least + "-" + least + "/3*3=0-2", 0);
+        takesBy("take 1 if " + least + "-" + least + "/5*5=0-3", 0);
         takesBy("take 1 if " + least + "%8=0", 0);
         takesBy("take 1 if " + least + "/0=0", 0);
         takesBy("take 1 if " + least + "%0=0", 0);
