@@ -619,9 +619,29 @@ public final class ActEdgeTest extends Checks {
         cake.back(0);
         due("ten", cake.count(10), 10);
         due("no eleventh", cake.note(0, 0, 0), -2);
+        for (int which = 0; which < 10; which++) {
+            int[][] right = {{1, 1, 1}, {1, 1, 1}, {0, 1, -1}};
+            int[][] other = {{0, 1, 1}, {1, 0, 1}, {0, 1, 1}};
+            for (int part = 0; part < 3; part++) {
+                cake.note(-1, 0, 0);
+                tenNotes(cake, which, right[part]);
+                cake.image(1);
+                cake.note(-1, 0, 0);
+                tenNotes(cake, which, other[part]);
+                due("one of ten is not so", cake.ruled(0), 0);
+                cake.back(1);
+                due("so again, each of ten", cake.ruled(0), 1);
+            }
+        }
         cake.back(3);
         due("none", cake.count(10), 0);
         due("the first", cake.note(0, 0, 0), 1);
+    }
+
+    private static void tenNotes(RueCake cake, int which, int[] note) {
+        for (int i = 0; i < 10; i++) {
+            cake.note(i == which ? note[0] : 0, i == which ? note[1] : 0, i == which ? note[2] : 0);
+        }
     }
 
     /** "gone back to, it is as it was": all that a feast tells, and none */

@@ -12,6 +12,8 @@ public final class AskEdgeTest extends Checks {
 
     public static void main(String[] args) {
         nothingChanges();
+        fullTable();
+        fullTableShared();
         aheadOfTheBounds();
         aheadRefused();
         leftOfAHundred();
@@ -83,6 +85,65 @@ public final class AskEdgeTest extends Checks {
             unchanged("slice", cake -> cake.slice(1, asked));
             unchanged("guest", cake -> cake.guest(1, asked));
         }
+    }
+
+    /** Ten slices of size 1, which five guests take by turns, slice 9 at turn 9: then each has what they rue. */
+    private static RueCake full(int turns) {
+        RueCake cake = feasting("cake 0 1" + times(";slice 0 1", 10) + times(";guest 2", 5));
+        for (int turn = 0; turn < turns; turn++) {
+            due("taken", cake.turnOne(), turn);
+        }
+        return cake;
+    }
+
+    /** "SLICES 0 to 9, GUESTS 0 to 4": the last of each is looked at as the others are, by turns that are asked */
+    private static void fullTable() {
+        RueCake cake = full(0);
+        due("ahead, not yet", cake.ahead(9, 9, 0), -1);
+        due("ahead, one free", cake.ahead(9, 9, 2), 1);
+        due("ahead, taken", cake.ahead(9, 10, 0), 4);
+        due("ahead, none free", cake.ahead(9, 10, 2), 0);
+        due("ahead, worth of the last guest", cake.ahead(4, 9, 1) * 10 + cake.ahead(4, 10, 1), 12);
+        due("left", cake.left(), 10);
+        due("begin", cake.begin(4, 9, 0) * 10 + cake.begin(4, 9, 1), 12);
+        due("begin of another", cake.begin(3, 9, 0) * 10 + cake.begin(3, 9, 1), 2);
+        leaveIs(cake, 8, -1, 3);
+        leaveIs(cake, 9, -1, 4);
+        leaveIs(cake, 10, -1, 5);
+        keptIs(cake, 9, 1, 1);
+        keptIs(cake, 10, 0, 0);
+        flamesAre(cake, 10, 9, 0, two(10, 10));
+        flamesAre(cake, 10, 10, 0, two(0, 0));
+        due("a rule that leaves the last one", ruleOf(cake, "take 9-slice"), 0);
+        lookIs(cake, 8, 0, 2);
+        lookIs(cake, 9, 9, 1);
+        cake.note(9, 9, 4);
+        ruledIs(cake, 1, -1);
+        cake.note(-1, 0, 0);
+        cake.note(9, 9, -1);
+        ruledIs(cake, 1, 0);
+    }
+
+    /** The same for what is asked of slices as they are: with none, four, nine and all of them taken. */
+    private static void fullTableShared() {
+        int[] envy = {0, 30, 28, 24, 16, 0, 30, 28, 24, 16, 0};
+        for (int turns = 0; turns <= 10; turns++) {
+            RueCake cake = full(turns);
+            due("envy at turn " + turns, cake.envy(), envy[turns]);
+            due("fair ways at turn " + turns, cake.fair(-1), new int[] {-3, -3, -3, -3, 360, 120, 24, 6, 2, 1, 1}[turns]);
+            due("whose the last is", cake.fair(9), turns < 4 ? -3 : turns < 10 ? 4 : -2);
+            due("whose the fifth is", cake.fair(4), turns < 4 ? -3 : turns == 4 ? 0 : -2);
+            due("free", cake.count(8), 1023 >> turns << turns);
+            needsAre(cake, 4, turns < 5 ? 2 : turns < 10 ? 1 : 0, turns < 5 ? 3 << turns : turns < 10 ? 1 << turns : 0);
+            twosAre(cake, 0, -2, -2);
+            due("kept for 60", cake.kept(60, 0), 0);
+            due("game", cake.game(4, 0, 1, 1), turns < 10 ? turns : -1);
+        }
+        RueCake cake = full(10);
+        due("the last guest has the last slice", cake.guest(4, 2), 1 << 9 | 1 << 4);
+        due("and lays it", cake.lay(9), 4);
+        due("and is envious", cake.envy(), 16);
+        due("one way", cake.fair(-1) * 10 + cake.fair(9), 14);
     }
 
     /** One slice of worth 5, taken at a turn and not before. */
@@ -524,6 +585,8 @@ public final class AskEdgeTest extends Checks {
         // three turns want two slices alone: one kind kept leaves three of them
         keptIs(feasting(four), 3, 2, 3);
         keptIs(feasting("cake 0 0;slice 3 1;slice 1 1;slice 3 1;guest 9;guest 9"), 1, 2, 10);
+        // KINDS 0 and 1 would do together, which is less as bits, but KIND 2 does alone
+        keptIs(feasting("cake 0 0;slice 0 3;slice 2 2;slice 1 3;slice 2 2;guest 9;guest 9"), 3, 1, 4);
         String late = "cake 0 0;slice 2 1;guest 9;guest 9";
         keptIs(forced(late, "take 1 if turn>=59"), 59, 0, 0);
         keptIs(forced(late, "take 1 if turn>=59"), 60, 1, 4);
@@ -753,6 +816,14 @@ public final class AskEdgeTest extends Checks {
         ruledIs(cake, 1, 2);
         cake.note(59, 0, 0);
         ruledIs(cake, 0, -2);
+        for (int wrong = 0; wrong <= 10; wrong++) {
+            cake = feasting("cake 0 0;slice 0 5;guest 1");
+            for (int n = 0; n < 10; n++) {
+                cake.note(50 + n, 0, n == wrong ? -1 : 0);
+            }
+            ruledIs(cake, wrong < 10 ? 0 : 1, wrong < 10 ? -2 : -1);
+            due("of ten notes each is looked at", cake.look(60, 0), wrong < 10 ? -2 : 0);
+        }
         for (int what : NO_WHAT) {
             refused("ruled " + what, Checks::fullStory, it -> it.ruled(what), -3);
         }
@@ -785,6 +856,10 @@ public final class AskEdgeTest extends Checks {
         lookIs(cake, 0, 0, 7);
         lookIs(cake, 60, 0, 7);
         lookIs(feasting("cake 0 0;slice 0 5;guest 1"), 0, 0, 1);
+        for (int first = 0; first < 5; first++) {
+            // whoever of more guests than slices has it
+            lookIs(feasting("cake " + first + " 0;slice 0 5" + times(";guest 1", 5)), 0, 0, 1);
+        }
         lookIs(feasting("cake 0 0;slice 0 5"), 60, 0, 1);
     }
 

@@ -33,6 +33,7 @@ public final class TextEdgeTest extends Checks {
         tenDeep();
         sixtyParts();
         sixLongRules();
+        rulesStandAlone();
         everyByteOfAFeast();
         everyByteOfARule();
         ends();
@@ -239,6 +240,11 @@ public final class TextEdgeTest extends Checks {
         feastFault("cake0 0" + times(";", 393), 8, 0);
         ruleFault("take1" + times("+", 395), 6, 0);
         ruleFault("take1if" + times("[", 393), 17, 2);
+        for (int blanks = 0; blanks < 400; blanks++) {
+            String behind = times(" ", 399 - blanks);
+            feastFault(times(" ", blanks) + "A" + behind, blanks, 0);
+            ruleFault(times(" ", blanks) + "9" + behind, blanks, 0);
+        }
         due("399 blanks and none", feastOf(new RueCake(), "cake 0 0" + times(" ", 391)), 0);
         due("400 of a feast", feastOf(new RueCake(), "cake 0 0" + times(" ", 392)), 0);
         due("400 of a rule", ruleOf(new RueCake(), "take 1" + times(" ", 394)), 0);
@@ -463,6 +469,7 @@ public final class TextEdgeTest extends Checks {
             ruleFault("take " + word, 5, 0);
             feastFault("cake 0 0;" + word.substring(0, Math.min(380, word.length())), 9, word.equals("cake") ? 4 : 0);
         }
+        wordsThatGoOn();
         String all = "take 1 if guest=1 and slice=2 and kind=0 and size=2 and likes=1 and worth=2 and has=13 and rue=16"
             + " and free=3 and beside=1 and mine=2 and turn=2";
         RueCake cake = forced(FEAST, all);
@@ -473,6 +480,26 @@ public final class TextEdgeTest extends Checks {
         cake.turnOne();
         cake.turnOne();
         due("as all words tell", cake.turnOne(), 2);
+    }
+
+    /** "as far as these go on": each word of a rule and of a feast with more letters is none */
+    private static void wordsThatGoOn() {
+        String rule = "take has if not 1=1 and 2=2 or 3=3;take 1";
+        String feast = "cake 1 2;slice 0 1;guest 5;likes 0 1 3";
+        for (String behind : new String[] {"a", "s", "or", "and", "xxxxx", "xxxxxx", "abcdefghijkl", times("z", 150)}) {
+            for (String word : new String[] {"take ", "has ", "if ", "not ", "and ", "or "}) {
+                int at = rule.indexOf(word);
+                ruleFault(rule.replace(word, word.trim() + behind + " "), at, 0);
+                ruleFault(rule.replace(word, behind + word), at, 0);
+                ruleFault(rule.replace(word, times(behind, 8).substring(0, 8) + " "), at, 0);
+            }
+            for (String word : new String[] {"cake ", "slice ", "guest ", "likes "}) {
+                int at = feast.indexOf(word);
+                feastFault(feast.replace(word, word.trim() + behind + " "), at, 0);
+                feastFault(feast.replace(word, behind + word), at, 0);
+                feastFault(feast.replace(word, times(behind, 8).substring(0, 8) + " "), at, 0);
+            }
+        }
     }
 
     /** Each word by its own worth to guest 1, slice by slice. */
@@ -495,6 +522,19 @@ public final class TextEdgeTest extends Checks {
         String[] signs = {"<", "<=", "=", ">=", ">"};
         boolean[][] hold = {{true, false, false}, {true, true, false}, {false, true, false}, {false, true, true},
             {false, false, true}};
+        // of two bytes <= and >= alone are one SIGN
+        String bytes = "<=>+-*/%[];A" + (char) 188 + (char) 29;
+        for (int one = 0; one < bytes.length(); one++) {
+            for (int other = 0; other < bytes.length(); other++) {
+                String two = bytes.substring(one, one + 1) + bytes.charAt(other);
+                if (!two.equals("<=") && !two.equals(">=")) {
+                    // behind the first eight another VALUE is to come
+                    ruleFault("take 1 if 1" + two + "1", one < 8 ? 12 : 11, 0);
+                }
+            }
+        }
+        ruleFault("take 1 if 1<==1", 13, 0);
+        ruleFault("take 1 if 1>==1", 13, 0);
         String least = "32768*32768*32768*32768*8";
         for (int i = 0; i < signs.length; i++) {
             for (int number = 0; number < 3; number++) {
@@ -677,6 +717,21 @@ public final class TextEdgeTest extends Checks {
             cake.force(number);
             due("taken by rule " + number, cake.turnOne(), (number + 2) % 5);
             cake.undo();
+        }
+    }
+
+    /** "0 without": where no clause of a rule holds, none of one that was told before it does */
+    private static void rulesStandAlone() {
+        for (int before = 1; before <= 12; before++) {
+            for (int clauses = 1; clauses <= 12; clauses++) {
+                RueCake cake = feasting(FEAST);
+                ruleOf(cake, times("take 1;", before - 1) + "take 1 if 1=1" + times(";take 1", 12 - before));
+                due("the rule of " + clauses, ruleOf(cake, times("take 0 if 1=2;", clauses - 1) + "take 9 if 1=2"), 1);
+                cake.force(1);
+                due("by it nothing is taken", cake.turnOne(), -1);
+                cake.force(0);
+                due("by the other one guest 0 takes slice 0", cake.ahead(0, 1, 0), 0);
+            }
         }
     }
 
